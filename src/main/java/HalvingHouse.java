@@ -289,7 +289,7 @@ public final class HalvingHouse {
     public int rowCall(int n, int k) throws IllegalArgumentException {
         need(shape.isSmall() && n >= 1 && n <= shape.mostInRows());
         bestRow.learn(n);
-        return k < 0 || k >= n ? NONE : bestRow.callAt(n, k);
+        return bestRow.callAt(n, k);
     }
 
     public int split(int a, int b, int x) throws IndexOutOfBoundsException, IllegalArgumentException {
@@ -1660,128 +1660,108 @@ public final class HalvingHouse {
         }
     }
 
-    /** The ROWS: for each count of calls that are left, from each set, what they take together at most. */
+    /** The ROWS, found by going through calls in their order for a sum that is set, from the greatest one on. */
     private static final class BestRow {
         private static final int MOST_CALLS = 6;
-        private static final int MOST_ALL = 64;
-        private static final int SMALL_ALL = 16;
-        private static final int MOST_SETS = 1000000;
+        private static final int WHICH = 100;
 
         private final Shape shape;
         private final Numbers set = new Numbers(MOST_CALLS);
         private final Halves halves;
-        private final int[][] ways = new int[MOST_ALL + 1][MOST_CALLS + 1];
-        private final int[] starts = new int[MOST_CALLS + 2];
-        private final int[] values;
-        private final int[] known = new int[MOST_CALLS + 1];
+        /** For so many calls left, and so many NUMBERS: what these calls can't exceed together. */
+        private final int[][] limits = new int[MOST_CALLS + 1][MOST_CALLS + 1];
+        private boolean limited;
+        private final int[] found = new int[MOST_CALLS + 1];
+        private int foundLength;
+        private int foundSum;
 
         BestRow(Shape shape) {
             this.shape = shape;
             halves = new Halves(shape, set);
-            for (int n = 0; n <= MOST_ALL; n++) {
-                ways[n][0] = 1;
-                for (int k = 1; k <= MOST_CALLS && n > 0; k++) {
-                    ways[n][k] = ways[n - 1][k - 1] + ways[n - 1][k];
-                }
-            }
-            for (int left = 1; left <= MOST_CALLS; left++) {
-                starts[left + 1] = starts[left] + MOST_ALL + 1;
-                for (int size = 2; size <= MOST_CALLS - left; size++) {
-                    starts[left + 1] += ways[SMALL_ALL][size];
-                }
-            }
-            values = new int[starts[MOST_CALLS + 1]];
         }
 
         void forget() {
-            for (int i = 0; i <= MOST_CALLS; i++) {
-                known[i] = 0;
-            }
+            limited = false;
+            foundLength = 0;
         }
 
-        /** With so many calls left, sets of more NUMBERS than there were calls before can't be. */
+        /** Finds the ROW of n calls, if it is not the latest one that was found. */
         int learn(int n) {
-            for (int left = 1; left <= n; left++) {
-                for (int size = known[left]; size <= n - left; size++) {
-                    learnSize(left, size);
-                }
-                known[left] = Math.max(known[left], n - left + 1);
+            if (!limited) {
+                setLimits();
             }
-            return values[starts[n]];
+            if (foundLength != n) {
+                set.clear();
+                int sum = limits[n][0];
+                while (sum > 0 && !find(n, sum)) {
+                    sum--;
+                }
+                foundLength = n;
+                foundSum = sum;
+            }
+            return foundSum;
         }
 
-        /** The k-th call of the first row that takes as much. */
         int callAt(int n, int k) {
-            set.clear();
-            int found = NONE;
-            for (int at = 0; at <= k && at < n; at++) {
-                found = firstCall(n - at);
-                set.answer(found / 100, found % 100);
-            }
-            return found;
+            return k < 0 || k >= n ? NONE : found[n - k];
         }
 
-        private void learnSize(int left, int size) {
-            int all = shape.greatest() + 1;
-            boolean going = size <= all;
-            set.beFirstSet(size);
-            int first = placeOfSet(left);
-            for (int i = 0; i < MOST_SETS && going && first + i < values.length; i++) {
-                values[first + i] = mostFrom(left);
-                going = set.beNextSet(all);
-            }
-        }
-
-        private int mostFrom(int left) {
-            int most = 0;
-            int staying = valueOfSet(left - 1);
-            for (int call = 0; call < CALLS; call++) {
-                int limit = shape.mostTouches(call, shape.wide, set.many) + staying;
-                boolean changing = call == PUT || call == DROP;
-                for (int x = 0; x <= shape.greatest() && (changing || limit > most); x++) {
-                    int sum = halves.touchesOf(call, x) + (changing ? valueAfter(call, x, left - 1) : staying);
-                    most = Math.max(most, sum);
-                }
-            }
-            return most;
-        }
-
-        private int valueAfter(int call, int x, int left) {
-            boolean done = call == PUT ? set.add(x) : call == DROP && set.remove(x);
-            int value = valueOfSet(left);
-            if (done && call == PUT) {
-                set.remove(x);
-            } else if (done) {
-                set.add(x);
-            }
-            return value;
-        }
-
-        private int valueOfSet(int left) {
-            int place = placeOfSet(left);
-            return left == 0 || place >= values.length ? 0 : values[place];
-        }
-
-        private int firstCall(int left) {
-            int most = valueOfSet(left);
-            for (int call = 0; call < CALLS; call++) {
-                for (int x = 0; x <= shape.greatest(); x++) {
-                    if (halves.touchesOf(call, x) + valueAfter(call, x, left - 1) == most) {
-                        return call * 100 + x;
+        private void setLimits() {
+            for (int left = 1; left <= MOST_CALLS; left++) {
+                for (int size = 0; size <= MOST_CALLS - left; size++) {
+                    limits[left][size] = 0;
+                    for (int call = 0; call < CALLS; call++) {
+                        limits[left][size] = Math.max(limits[left][size], limitOf(call, left, size));
                     }
                 }
             }
-            return NONE;
+            limited = true;
         }
 
-        /** Sets stand by size, and those of one size in the order in which beNextSet() goes. */
-        private int placeOfSet(int left) {
-            int all = shape.greatest() + 1;
-            int place = starts[left];
-            for (int i = 0; i < set.many; i++) {
-                place += ways[all][i] + ways[set.at(i)][i + 1];
+        /** What a call at a set of this size and the calls behind it can't exceed together. */
+        private int limitOf(int call, int left, int size) {
+            int touched = shape.mostTouches(call, shape.wide, size);
+            int staying = limits[left - 1][size];
+            if (call == PUT) {
+                return touched + limits[left - 1][size + 1];
             }
-            return place;
+            if (call == DROP) {
+                // A drop that changes nothing goes the way of has.
+                int idle = shape.mostTouches(HAS, shape.wide, size) + staying;
+                return Math.max(idle, touched + limits[left - 1][Math.max(size - 1, 0)]);
+            }
+            return touched + staying;
+        }
+
+        /** Whether the calls left can take so much from the set on; then the first such row is noted. */
+        private boolean find(int left, int need) {
+            if (left <= 0 || need > limits[left][set.many]) {
+                return left <= 0 && need <= 0;
+            }
+            for (int call = 0; call < CALLS; call++) {
+                boolean open = limitOf(call, left, set.many) >= need;
+                for (int x = 0; x <= shape.greatest() && open; x++) {
+                    if (findBehind(call, x, left, need)) {
+                        found[left] = call * WHICH + x;
+                        return true;
+                    }
+                }
+            }
+            return false;
+        }
+
+        private boolean findBehind(int call, int x, int left, int need) {
+            int touched = halves.touchesOf(call, x);
+            boolean came = call == PUT && set.add(x);
+            boolean went = call == DROP && set.remove(x);
+            boolean yes = find(left - 1, need - touched);
+            if (came) {
+                set.remove(x);
+            }
+            if (went) {
+                set.add(x);
+            }
+            return yes;
         }
     }
 }
