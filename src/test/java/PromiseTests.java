@@ -677,6 +677,12 @@ public final class PromiseTests {
         due("before, ROOM passed, LIST has none", x.touches(0, 4, 5, 0), 3);
         due("before, ROOM empty, LIST has one", x.touches(0, 4, 14, 0), 3);
         due("before, ROOM empty, LIST has none", x.touches(0, 4, 3, 0), 2);
+        // 16 bits: the LIST is 1, 2, 3, each of 1 and 2 for two NUMBERS; 300 is 1,44.
+        HalvingHouse wide = of("wide 16;", 0, 256, 257, 512, 513, 768, 65535);
+        due("next through a LIST", wide.touches(0, 3, 300, 0), 6);
+        due("CELLS through a LIST", wide.size(0, 0), 14);
+        due("before through a LIST", wide.touches(0, 4, 768, 0), 6);
+        due("drop through a LIST", wide.touches(0, 1, 65535, 0), 9);
         HalvingHouse two = of("wide 4;", 2, 14);
         due("next, nothing INSIDE", two.touches(0, 3, 2, 0), 1);
         due("before, nothing INSIDE", two.touches(0, 4, 14, 0), 1);
@@ -799,6 +805,17 @@ public final class PromiseTests {
         due("has", x.worst(2, 3, 0), 2);
         due("has, x", x.worst(2, 3, 2), 1);
         due("next", x.worst(3, 4, 0), 4);
+        HalvingHouse four = of("wide 4;");
+        // 0, 1, 4, 8 and put 9: 8 goes INSIDE, 2 into the LIST of 0, 1, where 1 goes INSIDE.
+        due("put of 4 bits", four.worst(0, 16, 0), 5);
+        due("put of 4 bits, many", four.worst(0, 16, 1), 4);
+        due("put of 4 bits, x", four.worst(0, 16, 2), 9);
+        due("put of three", four.worst(0, 3, 0), 3);
+        due("drop of 4 bits", four.worst(1, 16, 0), 9);
+        due("drop of 4 bits, many", four.worst(1, 5, 1), 5);
+        due("next of 4 bits", four.worst(3, 16, 0), 7);
+        due("next of 4 bits, x", four.worst(3, 6, 2), 4);
+        due("before of 4 bits, x", four.worst(4, 6, 2), 8);
         HalvingHouse six = of("wide 6;");
         due("drop of three", six.worst(1, 3, 0), 5);
         due("put of three", six.worst(0, 3, 1), 2);
@@ -832,6 +849,11 @@ public final class PromiseTests {
         due("call", () -> x.bad(5, 1, 0), ARGUMENT);
         HalvingHouse seven = of("wide 7;");
         due("W", () -> seven.bad(0, 1, 0), ARGUMENT);
+        HalvingHouse four = of("wide 4;");
+        int[] next = {0, 1, 4, 8, 12, 13, -1};
+        for (int k = 0; k < next.length; k++) {
+            due("next of 4 bits", four.bad(3, 16, k), next[k]);
+        }
         HalvingHouse five = of("wide 5;");
         due("n of 5", () -> five.bad(0, 4, 0), ARGUMENT);
         due("has of 5, 2", five.bad(2, 3, 2), 2);
@@ -1073,9 +1095,22 @@ public final class PromiseTests {
         due("house", () -> x.steals(0, 4, 1, 0), INDEX);
         due("house", () -> x.steals(0, -1, 1, 0), INDEX);
         due("house first", () -> x.steals(9, 4, 1, 9), INDEX);
+        // What was stolen before is stolen anew from what has changed.
+        due("2 by now", x.steals(2, 0, 1, 6), 2);
+        x.drop(0, 9);
+        due("1 behind a drop", x.steals(2, 0, 1, 6), 1);
+        x.put(3, 1);
+        x.put(3, 2);
+        due("1 still", x.steals(2, 0, 1, 6), 1);
+        x.joins(0, 3, 0);
+        due("3 behind a JOIN", x.steals(2, 0, 1, 6), 3);
+        x.split(0, 1, 2);
+        due("1 behind a SPLIT", x.steals(2, 0, 1, 6), 1);
+        due("2 in another house", x.steals(2, 1, 1, 6), 2);
         // A THIEF stays over a new SHAPE, and goes by it.
+        due("12 of four bits, SORTED", x.steals(0, 2, 1, 5), 1 + 2 + 2 + 1 + 2);
         shape(x, "wide 2;");
-        due("12 is 0 in two bits", x.steals(0, 0, 1, 6), 1);
+        due("12 is 0 in two bits", x.steals(0, 2, 1, 5), 1 + 1 + 1 + 2 + 1);
         x.put(0, 3);
         due("asked again behind a put", x.steals(0, 0, 1, 6), 2);
     }
