@@ -997,33 +997,27 @@ public final class HalvingHouse {
 
         int touchesInRow(int call, int x) {
             int sought = call == NEXT ? x + 1 : x;
-            int place = firstFrom(sought);
-            int touched = searchTouches(sought);
-            boolean there = place < many && sorted[place] == x;
-            if (call == BEFORE ? place > 0 : place < many) {
-                touched++;
-            }
-            if (call == PUT && !there) {
-                touched += many - place + 1;
-            }
-            if (call == DROP && there) {
-                touched += many - place - 1;
-            }
-            return touched;
-        }
-
-        private int searchTouches(int x) {
             int touched = 0;
             int a = 0;
             int b = many;
             while (a < b) {
                 int middle = (a + b) / 2;
                 touched++;
-                if (sorted[middle] < x) {
+                if (sorted[middle] < sought) {
                     a = middle + 1;
                 } else {
                     b = middle;
                 }
+            }
+            boolean there = a < many && sorted[a] == x;
+            if (call == BEFORE ? a > 0 : a < many) {
+                touched++;
+            }
+            if (call == PUT && !there) {
+                touched += many - a + 1;
+            }
+            if (call == DROP && there) {
+                touched += many - a - 1;
             }
             return touched;
         }
