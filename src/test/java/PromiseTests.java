@@ -1,5 +1,6 @@
 import java.lang.reflect.Constructor;
 import java.lang.reflect.Field;
+import java.lang.reflect.InvocationTargetException;
 import java.lang.reflect.Method;
 import java.lang.reflect.Modifier;
 import java.util.ArrayList;
@@ -22,6 +23,7 @@ public final class PromiseTests {
 
     public static void main(String[] args) {
         face();
+        extremes();
         promise1();
         promise2();
         promise3();
@@ -182,6 +184,42 @@ public final class PromiseTests {
         due("NONE", HalvingHouse.NONE, -1);
         int modifiers = HalvingHouse.class.getModifiers();
         due("public final", Modifier.isPublic(modifiers) && Modifier.isFinal(modifiers) ? 1 : 0, 1);
+    }
+
+    /** Whatever numbers come, only the exceptions of the throws clause are thrown, and those themselves. */
+    static void extremes() {
+        where = "extremes";
+        int[] values = {Integer.MIN_VALUE, -2, -1, 0, 1, 2, 3, 4, 16, 17, Integer.MAX_VALUE};
+        for (Method method : HalvingHouse.class.getDeclaredMethods()) {
+            int count = method.getParameterCount();
+            int all = (int) Math.pow(values.length, count);
+            HalvingHouse x = null;
+            for (int i = 0; i < all && Modifier.isPublic(method.getModifiers()); i += count > 3 ? 7 : 1) {
+                if (x == null || i % 300 < 7) {
+                    x = of("wide 4;", 1, 3, 4, 9, 15);
+                    thief(x, "times 9 [ put draw; drop i; next last; ]");
+                    x.put(1, 4);
+                    x.image();
+                }
+                Object[] arguments = new Object[count];
+                for (int k = 0, left = i; k < count; k++, left /= values.length) {
+                    arguments[k] = values[left % values.length];
+                }
+                extreme(x, method, arguments);
+            }
+        }
+    }
+
+    static void extreme(HalvingHouse x, Method method, Object[] arguments) {
+        try {
+            method.invoke(x, arguments);
+        } catch (InvocationTargetException e) {
+            if (!Arrays.asList(method.getExceptionTypes()).contains(e.getCause().getClass())) {
+                due(method.getName() + Arrays.toString(arguments) + " threw " + e.getCause(), 0, 1);
+            }
+        } catch (IllegalAccessException e) {
+            due(method.getName() + " can't be called", 0, 1);
+        }
     }
 
     // ---------------------------------------------------------------- texts
